@@ -385,9 +385,8 @@ public final class VisitGrammar {
             }
         }
 
-        /** Rules and symbols alone: what ORDERED looks at, without what productions add. */
-        void combine() {
-            takeRules();
+        /** Takes what has been added to the attributes' leads since, without handing it on. */
+        void takeOrder() {
             for (int production = 0; production < grammar.productionCount; production++) {
                 takeFromSymbols(production);
                 close(production);
@@ -754,7 +753,7 @@ public final class VisitGrammar {
         private boolean isOrdered() {
             ranking.make();
             ranking.addToLeads();
-            leads.combine();
+            leads.takeOrder();
             return noneLeadsToItself(UNORDERED);
         }
 

@@ -10,6 +10,7 @@ public final class AnalysisTest {
         itselfIsNoOther();
         circularAcrossPositions();
         notOrdered();
+        notOrderedByLeads();
         faultsStay();
         faultOfNothing();
         visitsAndRanks();
@@ -137,6 +138,27 @@ public final class AnalysisTest {
         x.rule(1, 9, 0, 1, 0);
         Expect.equal("P5 ordered", 3 + 7, x.analyse());
         Expect.same("P5 sequence", "5 8 9 201 4 101 1001", Samples.sequence(x, 1));
+    }
+
+    /** The circle goes through what attributes of one rank lead to, and that comes from production 2. */
+    private static void notOrderedByLeads() {
+        VisitGrammar x = Samples.unordered();
+        x.symbol(2, 3);
+        x.production(0, 2, -1, -1);
+        x.rule(2, 4, 0, 1, 0);
+        x.rule(2, 5, 0, 1, 0);
+        x.rule(1, 9, 0, 1, 0);
+        x.production(0, 1, 1, 2);
+        x.rule(3, 4, 2, 10, 0);
+        x.rule(3, 5, 0, 1, 0);
+        x.rule(3, 8, 0, 1, 0);
+        x.rule(3, 9, 2, 13, 0);
+        x.rule(3, 12, 2, 7, 0);
+        x.rule(3, 13, 0, 1, 0);
+        Expect.equal("P5 ordered", 3 + 7 + 4 + 10, x.analyse());
+        x.rule(2, 5, 2, 4, 0);
+        Expect.unsupportedThrown("P5 not ordered", () -> x.analyse());
+        Expect.same("P6 not ordered", "3 3 4", Samples.fault(x));
     }
 
     private static void faultsStay() {

@@ -15,6 +15,7 @@ public final class RunTest {
         rootWithParent();
         growingWhileRunning();
         otherTreesAreNotKnown();
+        largest();
         forms();
         knowsErrors();
         Expect.finish();
@@ -281,6 +282,45 @@ public final class RunTest {
         Expect.isTrue("P17 known", x.knows(0, 0) && x.knows(0, 1));
         x.start(1);
         Expect.isTrue("P17 the run before is gone", !x.knows(0, 0) && !x.knows(0, 1));
+    }
+
+    /** As many symbols, attributes, productions and nodes as there may be, with three visits each. */
+    private static void largest() {
+        VisitGrammar x = new VisitGrammar();
+        for (int symbol = 0; symbol < 6; symbol++) {
+            x.symbol(4, 10);
+        }
+        for (int production = 0; production < 9; production++) {
+            x.production(5, 5, 5, 5);
+            for (int position = 4; position <= 12; position += 4) {
+                x.rule(production, position + 1, 2, position, 0);
+                x.rule(production, position + 3, 2, position + 2, 0);
+            }
+            x.rule(production, 0, 3, 4, 8);
+            x.rule(production, 2, 3, 6, 10);
+        }
+        x.production(5, -1, -1, -1);
+        x.rule(9, 0, 1, 0, 0);
+        x.rule(9, 2, 7, 1, 0);
+        Expect.equal("P5 the largest", 9 * (8 + 9 + 3) + 5, x.analyse());
+        Expect.same("P9 the largest", "101 5 102 7 103 201 0 9 202 2 11 203 301 13 302 15 303 1001 1002 1003",
+                Samples.sequence(x, 8));
+        for (int leaf = 0; leaf < 27; leaf++) {
+            x.node(9, 1, -1, -1, -1);
+        }
+        for (int first = 0, node = 27; node < 40; first += 3, node++) {
+            Expect.equal("P10 inner node", node, x.node(node % 9, 1, first, first + 1, first + 2));
+        }
+        x.start(39);
+        Expect.equal("P14 the largest", 13 * 20 + 27 * 5, x.run(500));
+        Expect.equal("P15 the largest", 2, x.status());
+        Expect.equal("P18 sum of eight tokens", 8, x.value(39, 0));
+        Expect.equal("P18 sum of eight doubled tokens", 16, x.value(39, 2));
+        for (int node = 0; node < 39; node++) {
+            for (int attribute = 0; attribute < 4; attribute++) {
+                Expect.isTrue("P17 all below are known", x.knows(node, attribute));
+            }
+        }
     }
 
     private static void forms() {
