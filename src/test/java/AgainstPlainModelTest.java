@@ -8,6 +8,7 @@ import java.util.Random;
 public final class AgainstPlainModelTest {
     private static final int OBJECTS = 1500;
     private static final int CALLS = 512;
+    private static final long THROWN = Long.MIN_VALUE;
     private static final int[] EDGES = {-2, -1, 0, 1, 3, 4, 5, 16, 500, 501, Integer.MIN_VALUE, Integer.MAX_VALUE};
 
     private final Random random;
@@ -229,24 +230,36 @@ public final class AgainstPlainModelTest {
         call(name[0], a);
     }
 
-    /** Makes a call on both: what they answered, or a number below -1 if they threw. */
+    /** Makes a call on both: what they answered, 0 for nothing and false, or a number below -1 if they threw. */
     private long call(String name, int... a) {
         if (left == 0 || wrong) {
-            return -100;
+            return THROWN;
         }
         left--;
-        String text = name + Arrays.toString(a);
-        calls.append(text).append("; ");
-        long due = answered(() -> onModel(name, a));
-        long got = answered(() -> onProgram(name, a));
-        if (due != got) {
-            wrong = true;
-            Expect.equal(calls.toString(), due, got);
+        StringBuilder text = new StringBuilder(name);
+        for (int argument : a) {
+            text.append(' ').append(argument);
         }
-        if (due >= 0) {
+        calls.append(text).append("; ");
+        String due = Calls.answer(model, text.toString());
+        String got = Calls.answer(program, text.toString());
+        if (!due.equals(got)) {
+            wrong = true;
+            Expect.same(calls.toString(), due, got);
+        }
+        long answer = number(due);
+        if (answer >= 0) {
             follow(name, a);
         }
-        return due;
+        return answer;
+    }
+
+    private static long number(String answer) {
+        return switch (answer) {
+            case "done", "false" -> 0;
+            case "true" -> 1;
+            default -> answer.startsWith("throws") ? THROWN : Long.parseLong(answer);
+        };
     }
 
     private void follow(String name, int[] a) {
@@ -260,68 +273,6 @@ public final class AgainstPlainModelTest {
                     taken[a[i]] = true;
                 }
             }
-        }
-    }
-
-    private interface Call {
-        long answer();
-    }
-
-    private static long answered(Call call) {
-        try {
-            return call.answer();
-        } catch (RuntimeException thrown) {
-            return Long.MIN_VALUE / 2 + thrown.getClass().getName().hashCode();
-        }
-    }
-
-    private static long nothing() {
-        return 0;
-    }
-
-    private long onProgram(String name, int[] a) {
-        VisitGrammar x = program;
-        switch (name) {
-            case "symbol": return x.symbol(a[0], a[1]);
-            case "production": return x.production(a[0], a[1], a[2], a[3]);
-            case "rule": x.rule(a[0], a[1], a[2], a[3], a[4]); return nothing();
-            case "analyse": return x.analyse();
-            case "fault": return x.fault(a[0]);
-            case "visits": return x.visits(a[0]);
-            case "rank": return x.rank(a[0], a[1]);
-            case "instruction": return x.instruction(a[0], a[1]);
-            case "node": return x.node(a[0], a[1], a[2], a[3], a[4]);
-            case "fell": x.fell(); return nothing();
-            case "give": x.give(a[0], a[1]); return nothing();
-            case "start": x.start(a[0]); return nothing();
-            case "run": return x.run(a[0]);
-            case "status": return x.status();
-            case "atHand": return x.atHand();
-            case "knows": return x.knows(a[0], a[1]) ? 1 : 0;
-            default: return x.value(a[0], a[1]);
-        }
-    }
-
-    private long onModel(String name, int[] a) {
-        PlainModel x = model;
-        switch (name) {
-            case "symbol": return x.symbol(a[0], a[1]);
-            case "production": return x.production(a[0], a[1], a[2], a[3]);
-            case "rule": x.rule(a[0], a[1], a[2], a[3], a[4]); return nothing();
-            case "analyse": return x.analyse();
-            case "fault": return x.fault(a[0]);
-            case "visits": return x.visits(a[0]);
-            case "rank": return x.rank(a[0], a[1]);
-            case "instruction": return x.instruction(a[0], a[1]);
-            case "node": return x.node(a[0], a[1], a[2], a[3], a[4]);
-            case "fell": x.fell(); return nothing();
-            case "give": x.give(a[0], a[1]); return nothing();
-            case "start": x.start(a[0]); return nothing();
-            case "run": return x.run(a[0]);
-            case "status": return x.status();
-            case "atHand": return x.atHand();
-            case "knows": return x.knows(a[0], a[1]) ? 1 : 0;
-            default: return x.value(a[0], a[1]);
         }
     }
 }

@@ -1,26 +1,17 @@
-/** Promises 5 to 9: analyse, fault, visits, rank, instruction. */
+/** Promises 5 to 9 on ordinary grammars; AnalysisEdgesTest has their edges. */
 public final class AnalysisTest {
     public static void main(String[] args) {
         lengths();
-        noProduction();
-        incomplete();
-        incompleteBeforeCircular();
         circular();
         circularThroughSymbols();
-        itselfIsNoOther();
         circularAcrossPositions();
         notOrdered();
         notOrderedByLeads();
-        faultsStay();
-        faultOfNothing();
         visitsAndRanks();
         ranksOfLeads();
-        unusedSymbols();
-        wrongNumbers();
         sequences();
         leavesInBetween();
         lastLeaveWaits();
-        analyseEndsRun();
         Expect.finish();
     }
 
@@ -31,48 +22,6 @@ public final class AnalysisTest {
         VisitGrammar x = Samples.list();
         Expect.equal("P5 once", 10, x.analyse());
         Expect.equal("P5 twice", 10, x.analyse());
-    }
-
-    private static void noProduction() {
-        VisitGrammar x = new VisitGrammar();
-        Expect.stateThrown("P5 nothing", () -> x.analyse());
-        x.symbol(1, 0);
-        Expect.stateThrown("P5 no production", () -> x.analyse());
-        Expect.same("P6 no production", "0 -1 -1", Samples.fault(x));
-        Expect.stateThrown("P5 there is no analysis then", () -> x.visits(0));
-    }
-
-    private static void incomplete() {
-        VisitGrammar x = new VisitGrammar();
-        x.symbol(3, 1);
-        x.production(0, 0, 0, 0);
-        x.production(0, 0, 0, 0);
-        int[] toDefine = {1, 2, 4, 8, 12};
-        for (int production = 0; production < 2; production++) {
-            for (int occurrence : toDefine) {
-                Expect.stateThrown("P5 incomplete", () -> x.analyse());
-                Expect.same("P6 incomplete", "1 " + production + " " + occurrence, Samples.fault(x));
-                x.rule(production, occurrence, 0, 0, 0);
-            }
-        }
-        Expect.equal("P5 complete", 2 * (5 + 3 + 1), x.analyse());
-        Expect.same("P6 no fault", "0 -1 -1", Samples.fault(x));
-    }
-
-    private static void incompleteBeforeCircular() {
-        VisitGrammar x = new VisitGrammar();
-        x.symbol(2, 0);
-        x.production(0, -1, -1, -1);
-        x.rule(0, 0, 2, 1, 0);
-        x.rule(0, 1, 2, 0, 0);
-        x.production(0, -1, -1, -1);
-        x.rule(1, 0, 1, 0, 0);
-        Expect.stateThrown("P5 incomplete and circular", () -> x.analyse());
-        Expect.same("P6 incomplete and circular", "1 1 1", Samples.fault(x));
-        x.rule(1, 1, 1, 0, 0);
-        Expect.unsupportedThrown("P5 circular", () -> x.analyse());
-        Expect.same("P6 circular", "2 0 0", Samples.fault(x));
-        Expect.stateThrown("P5 there is no analysis then", () -> x.instruction(0, 0));
     }
 
     private static void circular() {
@@ -103,18 +52,6 @@ public final class AnalysisTest {
         x.rule(2, 1, 2, 0, 0);
         Expect.unsupportedThrown("P5 with it", () -> x.analyse());
         Expect.same("P6 with it", "2 1 4", Samples.fault(x));
-    }
-
-    /** Only what leads to another attribute goes on to symbols: production 0 has no circle of its own. */
-    private static void itselfIsNoOther() {
-        VisitGrammar x = new VisitGrammar();
-        x.symbol(1, 0);
-        x.production(0, 0, -1, -1);
-        x.rule(0, 0, 2, 4, 0);
-        x.production(0, -1, -1, -1);
-        x.rule(1, 0, 2, 0, 0);
-        Expect.unsupportedThrown("P5 an occurrence that uses itself", () -> x.analyse());
-        Expect.same("P6 an occurrence that uses itself", "2 1 0", Samples.fault(x));
     }
 
     private static void circularAcrossPositions() {
@@ -161,31 +98,6 @@ public final class AnalysisTest {
         Expect.same("P6 not ordered", "3 3 4", Samples.fault(x));
     }
 
-    private static void faultsStay() {
-        VisitGrammar x = Samples.list();
-        x.production(0, -1, -1, -1);
-        Expect.stateThrown("P5 incomplete", () -> x.analyse());
-        x.rule(3, 0, 1, 0, 0);
-        Expect.same("P6 of the latest analyse(), though rules have come", "1 3 0", Samples.fault(x));
-        x.symbol(1, 0);
-        x.fell();
-        Expect.same("P6 of the latest analyse(), still", "1 3 0", Samples.fault(x));
-        x.analyse();
-        Expect.same("P6 it did not throw", "0 -1 -1", Samples.fault(x));
-    }
-
-    private static void faultOfNothing() {
-        VisitGrammar x = Samples.unordered();
-        int[] others = {-1, 3, 4, Integer.MIN_VALUE, Integer.MAX_VALUE};
-        for (int what : others) {
-            Expect.equal("P6 before", -1, x.fault(what));
-        }
-        Expect.unsupportedThrown("P5 not ordered", () -> x.analyse());
-        for (int what : others) {
-            Expect.equal("P6 behind", -1, x.fault(what));
-        }
-    }
-
     private static void visitsAndRanks() {
         VisitGrammar x = Samples.threeVisits();
         x.analyse();
@@ -224,49 +136,12 @@ public final class AnalysisTest {
         Expect.same("P9 production 1", "0 1 1001 1002", Samples.sequence(x, 1));
     }
 
-    private static void unusedSymbols() {
-        VisitGrammar x = Samples.list();
-        x.symbol(0, 15);
-        x.symbol(1, 1);
-        x.symbol(2, 0);
-        Expect.equal("P5 symbols add nothing", 10, x.analyse());
-        Expect.equal("P7 no attributes", 1, x.visits(2));
-        Expect.equal("P7 inherited alone", 1, x.visits(3));
-        Expect.equal("P8 inherited alone", 2, x.rank(3, 0));
-        Expect.equal("P8 synthesized alone", 1, x.rank(4, 1));
-        Expect.indexThrown("P8 no attributes", () -> x.rank(2, 0));
-    }
-
-    private static void wrongNumbers() {
-        VisitGrammar x = Samples.list();
-        Expect.stateThrown("P7 no analysis first", () -> x.visits(-1));
-        Expect.stateThrown("P8 no analysis first", () -> x.rank(-1, -1));
-        Expect.stateThrown("P9 no analysis first", () -> x.instruction(-1, -1));
-        x.analyse();
-        int[] wrong = {-1, 3, Integer.MIN_VALUE, Integer.MAX_VALUE};
-        for (int w : wrong) {
-            Expect.indexThrown("P7 visits(" + w + ")", () -> x.visits(w));
-            Expect.indexThrown("P8 rank(" + w + ", 0)", () -> x.rank(w, 0));
-            Expect.indexThrown("P8 rank(1, " + w + ")", () -> x.rank(1, w));
-            Expect.indexThrown("P9 instruction(" + w + ", 0)", () -> x.instruction(w, 0));
-        }
-        Expect.indexThrown("P7 visits(2)", () -> x.visits(2));
-        Expect.indexThrown("P8 rank(2, 0)", () -> x.rank(2, 0));
-        Expect.indexThrown("P8 rank(0, 1)", () -> x.rank(0, 1));
-        Expect.indexThrown("P9 k = -1", () -> x.instruction(0, -1));
-        Expect.indexThrown("P9 k = MIN", () -> x.instruction(0, Integer.MIN_VALUE));
-    }
-
     private static void sequences() {
         VisitGrammar x = Samples.list();
         x.analyse();
         Expect.same("P9 production 0", "4 101 0 1001", Samples.sequence(x, 0));
         Expect.same("P9 production 1", "4 101 1 1001", Samples.sequence(x, 1));
         Expect.same("P9 production 2", "1 1001", Samples.sequence(x, 2));
-        int[] behind = {4, 5, 31, 32, 33, 1000, Integer.MAX_VALUE};
-        for (int k : behind) {
-            Expect.equal("P9 behind the last one: " + k, -1, x.instruction(1, k));
-        }
         VisitGrammar y = Samples.twoVisits();
         y.analyse();
         Expect.same("P9 two visits of the right", "4 101 6 102 0 1001", Samples.sequence(y, 0));
@@ -292,16 +167,5 @@ public final class AnalysisTest {
         x.rule(2, 12, 1, 0, 0);
         x.analyse();
         Expect.same("P9 sequence", "0 2 12 301 1001 8 201 1002 4 101 1003", Samples.sequence(x, 2));
-    }
-
-    private static void analyseEndsRun() {
-        VisitGrammar x = Samples.listWithTree();
-        x.start(2);
-        x.run(1);
-        x.analyse();
-        Expect.equal("P5 there is no run then", 0, x.status());
-        Expect.equal("P5 nothing at hand then", -1, x.atHand());
-        Expect.isTrue("P5 nothing known then", !x.knows(1, 0));
-        Expect.stateThrown("P5 no run then", () -> x.run(1));
     }
 }

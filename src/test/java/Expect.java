@@ -23,14 +23,6 @@ final class Expect {
         }
     }
 
-    static void indexThrown(String call, Runnable body) {
-        same(call, "IndexOutOfBoundsException", thrownBy(body));
-    }
-
-    static void argumentThrown(String call, Runnable body) {
-        same(call, "IllegalArgumentException", thrownBy(body));
-    }
-
     static void stateThrown(String call, Runnable body) {
         same(call, "IllegalStateException", thrownBy(body));
     }

@@ -61,12 +61,12 @@ final class PlainModel {
         return symbols.size() - 1;
     }
 
-    int production(int left, int... right) {
+    int production(int left, int right1, int right2, int right3) {
         check(within(left, symbols.size()), new IllegalArgumentException());
         Production made = new Production();
         made.symbols.add(left);
         boolean ended = false;
-        for (int symbol : right) {
+        for (int symbol : new int[] {right1, right2, right3}) {
             if (symbol == -1) {
                 ended = true;
             } else {
@@ -143,9 +143,10 @@ final class PlainModel {
         return k < sequence.size() ? sequence.get(k) : -1;
     }
 
-    int node(int production, int token, int... children) {
+    int node(int production, int token, int child1, int child2, int child3) {
         check(within(production, productions.size()), new IllegalArgumentException());
         List<Integer> wanted = productions.get(production).symbols;
+        int[] children = {child1, child2, child3};
         Node made = new Node();
         made.production = production;
         made.token = token;
