@@ -20,6 +20,7 @@ public final class AnalysisEdgesTest {
         incompleteComesBeforeCircular();
         circularComesBeforeNotOrdered();
         mendedFaults();
+        analysedAnew();
         faultOfEachKind();
         firstSuchProduction();
         leastOccurrenceWithoutARule();
@@ -47,21 +48,21 @@ public final class AnalysisEdgesTest {
     /** P5 "the length of all sequences together": 20 of each of 10 productions, as long as can be. */
     private static void longestSequences() {
         StringBuilder sets = new StringBuilder("symbol 4 0; symbol 4 15\n");
-        StringBuilder visits = new StringBuilder("symbol 4 10\n");
+        StringBuilder visits = new StringBuilder("symbol 4 10\n".repeat(6));
         for (int production = 0; production < 10; production++) {
             sets.append("production 0 1 1 1\n");
             for (int occurrence = 15; occurrence >= 0; occurrence--) {
                 sets.append("rule # ".replace("#", "" + production)).append(occurrence).append(" 1 0 0\n");
             }
             visits.append("""
-                    production 0 0 0 0
+                    production 5 5 5 5
                     rule # 0 2 4 0; rule # 2 3 6 1; rule # 5 2 4 0; rule # 7 2 6 0
                     rule # 9 2 8 0; rule # 11 2 10 0; rule # 13 2 12 0; rule # 15 2 14 0
                     """.replace("#", "" + production));
         }
         Script.due("P5 16 SETs each", sets.toString(), "analyse = 200",
                 Samples.sequenceRows(9, 0, 1, 2, 3, 4, 5, 6, 7, 8, 9, 10, 11, 12, 13, 14, 15, 101, 201, 301, 1001));
-        Script.due("P5 3 visits each", visits.toString(), "analyse = 200", Samples.sequenceRows(9,
+        Script.due("P5 3 visits each", visits.toString(), "analyse = 200; visits 5 = 3", Samples.sequenceRows(9,
                 101, 0, 5, 102, 7, 103, 201, 9, 202, 11, 203, 301, 13, 302, 15, 303, 1001, 2, 1002, 1003));
     }
 
@@ -147,6 +148,19 @@ public final class AnalysisEdgesTest {
                 analyse = 10
                 visits 1 = 1; start 2; run 500 = 10; value 2 0 = 21
                 """);
+    }
+
+    /** P5: nothing of the analysis before is left, with fewer visits and with more. */
+    private static void analysedAnew() {
+        String many = """
+                rule 0 5 2 4 0; rule 0 7 2 6 0; analyse = 12
+                visits 1 = 3; rank 1 0 = 5; rank 1 1 = 4; rank 1 2 = 3; rank 1 3 = 2
+                """ + Samples.sequenceRows(1, 0, 1001, 2, 1002, 1003);
+        String few = """
+                rule 0 5 0 1 0; rule 0 7 0 1 0; analyse = 8
+                visits 1 = 1; rank 1 0 = 1; rank 1 1 = 2; rank 1 2 = 1; rank 1 3 = 2
+                """ + Samples.sequenceRows(1, 0, 2, 1001);
+        Script.due("P5 anew", Samples.THREE_VISITS, many, few, many, few);
     }
 
     /** P6 "1 incomplete, 2 circular, 3 not ordered (what = 0)". */

@@ -16,6 +16,9 @@ public final class TermsEdgesTest {
         incompleteIfOneHasNoRule();
         nothingToBeDefinedIsComplete();
         leadsToTheThird();
+        eachWayRound();
+        throughAnotherPosition();
+        throughAChild();
         handedOnFromEachPosition();
         handedOnToEachPosition();
         otherPositionsAreNotHandedOn();
@@ -29,6 +32,7 @@ public final class TermsEdgesTest {
         belongsToItsVisit();
         orderedFromGreaterToLessRank();
         orderedAtTheLeftToo();
+        orderedInTheFirstProduction();
         equalRanksAreNotOrdered();
         setsByOccurrence();
         visitsByPositionAndNumber();
@@ -37,6 +41,7 @@ public final class TermsEdgesTest {
         visitWaitsForAllInheritedOnes();
         lastLeaveWhenAllElseIsThere();
         aTreeOfOneNode();
+        asManyChildrenAsTheRight();
         goesOnBehindItsLatestOne();
         leaveAtTheRoot();
         Expect.finish();
@@ -143,6 +148,46 @@ public final class TermsEdgesTest {
                 rule 0 3 2 1 0
                 analyse throws UnsupportedOperationException
                 """, Samples.faultRows(2, 0, 1));
+    }
+
+    /** The same of four attributes, each way round that there is. */
+    private static void eachWayRound() {
+        int[][] ways = {{1, 2, 3}, {1, 3, 2}, {2, 1, 3}, {2, 3, 1}, {3, 1, 2}, {3, 2, 1}};
+        for (int[] way : ways) {
+            String rows = "rule 0 0 2 " + way[0] + " 0; rule 0 " + way[0] + " 2 " + way[1] + " 0; rule 0 " + way[1]
+                    + " 2 " + way[2] + " 0; rule 0 " + way[2];
+            Script.due("round 0 and " + way[0] + ", " + way[1] + ", " + way[2], "symbol 4 0; production 0 -1 -1 -1",
+                    rows + " 1 0 0; analyse = 5", Samples.sequenceRows(0, way[2], way[1], way[0], 0, 1001),
+                    rows + " 2 0 0; analyse throws UnsupportedOperationException", Samples.faultRows(2, 0, 0));
+        }
+    }
+
+    /** What leads to another of its position by way of position 0 is handed on to the symbol too. */
+    private static void throughAnotherPosition() {
+        Script.due("through the left", """
+                symbol 1 0; symbol 2 1
+                production 0 1 -1 -1; rule 0 0 2 5 0; rule 0 4 2 0 0
+                production 1 -1 -1 -1; rule 1 1 1 0 0
+                analyse = 8
+                rank 1 0 = 2; rank 1 1 = 3; visits 1 = 2
+                """, Samples.sequenceRows(0, 101, 0, 4, 102, 1001), Samples.sequenceRows(1, 1, 1001, 1002), """
+                rule 1 1 2 0 0
+                analyse throws UnsupportedOperationException
+                """, Samples.faultRows(2, 0, 0));
+    }
+
+    /** The left's 1 leads to its 0 only through the child, as the child's own production says. */
+    private static void throughAChild() {
+        Script.due("through a child", """
+                symbol 0 0; symbol 2 2; symbol 2 1
+                production 0 1 -1 -1; rule 0 5 2 4 0
+                production 1 2 -1 -1; rule 1 4 2 1 0; rule 1 0 2 5 0
+                production 2 -1 -1 -1; rule 2 1 2 0 0
+                analyse throws UnsupportedOperationException
+                """, Samples.faultRows(2, 0, 4), """
+                rule 2 1 1 0 0
+                analyse = 13
+                """, Samples.sequenceRows(1, 101, 0, 1001, 4, 102, 1002));
     }
 
     /** "if in a production an occurrence leads to another one of the same position, so do the attributes". */
@@ -300,6 +345,19 @@ public final class TermsEdgesTest {
                 """, Samples.sequenceRows(2, 4, 101, 0, 1001, 1002));
     }
 
+    /** "For each production": here of the first symbol and the first production, to attribute 0. */
+    private static void orderedInTheFirstProduction() {
+        Script.due("in the first production", """
+                symbol 4 12; symbol 0 0
+                production 1 0 0 -1; rule 0 6 2 8 0; rule 0 7 0 1 0; rule 0 10 0 1 0; rule 0 11 2 4 0
+                production 0 -1 -1 -1; rule 1 0 1 0 0; rule 1 1 1 0 0
+                analyse throws UnsupportedOperationException
+                """, Samples.faultRows(3, 0, 4), """
+                rule 0 11 0 1 0
+                analyse = 10
+                """, Samples.sequenceRows(0, 7, 10, 11, 201, 6, 101, 1001));
+    }
+
     /** Equal ranks are not put in an order: each of two inherited ones may wait for the other's use. */
     private static void equalRanksAreNotOrdered() {
         Script.due("equal ranks", """
@@ -374,6 +432,20 @@ public final class TermsEdgesTest {
         Script.due("one node, one step", """
                 symbol 0 0; production 0 -1 -1 -1; node 0 0 -1 -1 -1; analyse = 1
                 start 0; status = 1; atHand = 0; run 500 = 1; status = 2; atHand = -1
+                """);
+    }
+
+    /** "as many CHILDREN as the right has symbols": three, each with what is set there. */
+    private static void asManyChildrenAsTheRight() {
+        Script.due("three children", """
+                symbol 3 0; symbol 2 1
+                production 0 1 1 1; rule 0 0 2 5 0; rule 0 1 2 9 0; rule 0 2 2 13 0
+                rule 0 4 0 100 0; rule 0 8 0 200 0; rule 0 12 0 300 0
+                production 1 -1 -1 -1; rule 1 1 7 0 0
+                node 1 1 -1 -1 -1; node 1 2 -1 -1 -1; node 1 3 -1 -1 -1; node 0 0 2 0 1
+                analyse = 12; start 3; run 3 = 3; value 2 0 = 100; value 0 0 = 200; value 1 0 = 300
+                run 1 = 1; atHand = 2; run 3 = 3; atHand = 3; run 1 = 1; atHand = 0; run 3 = 3; run 1 = 1; atHand = 1
+                run 500 = 4; value 3 0 = 103; value 3 1 = 201; value 3 2 = 302
                 """);
     }
 
