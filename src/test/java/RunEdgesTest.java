@@ -412,7 +412,8 @@ public final class RunEdgesTest {
     /** P15 "0 there is none, 1 it goes on, 2 it is done". */
     private static void statusOfTheRun() {
         Script.due("P15 status", "status = 0", Samples.LIST_WITH_TREE, """
-                status = 0; start 2; status = 1; run 0; status = 1; run 9; status = 1; run 1; status = 2; run 1; status = 2
+                status = 0; start 2; status = 1; run 0; status = 1
+                run 9; status = 1; run 1; status = 2; run 1; status = 2
                 start 0; status = 1; fell; status = 0
                 """);
     }

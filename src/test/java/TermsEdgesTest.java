@@ -7,6 +7,8 @@ public final class TermsEdgesTest {
             production 1 -1 -1 -1; rule 1 0 1 0 0
             """;
 
+    private static final String REFUSED = " throws IllegalArgumentException\n";
+
     public static void main(String[] args) {
         atMost512Calls();
         occurrenceIs4TimesAPositionAndAnAttribute();
@@ -49,18 +51,11 @@ public final class TermsEdgesTest {
 
     /** "An object is used for at most 512 calls after it has been made". */
     private static void atMost512Calls() {
-        String reads = "analyse = 10\n" + "give 0 7\n".repeat(2);
-        int calls = 14;
-        StringBuilder rows = new StringBuilder(Samples.LIST_WITH_TREE);
-        for (; calls + 3 <= 512 - 4; calls += 3) {
-            rows.append(reads);
-        }
-        for (; calls < 512 - 4; calls++) {
-            rows.append("status = 0\n");
-        }
-        rows.append("start 2; run 9 = 9; run 500 = 1; value 2 0 = 21\n");
-        Expect.equal("exactly 512 calls", 512, rows.toString().split("[\n;]").length);
-        Script.due("512 calls", rows.toString());
+        String before = Samples.LIST_WITH_TREE
+                + "rule 0 4 0 10 0; analyse = 10; give 0 7\n".repeat(164) + "status = 0\n".repeat(2);
+        String last = "start 2; run 9 = 9; run 500 = 1; value 2 0 = 21";
+        Expect.equal("exactly 512 calls", 512, (before + last).split("[\n;]").length);
+        Script.due("512 calls", before, last);
     }
 
     /** "An OCCURRENCE of a production is 4 times a position and an attribute": 0 to 15. */
@@ -86,8 +81,6 @@ public final class TermsEdgesTest {
         }
         Script.due("attributes of the symbol there", rows.toString());
     }
-
-    private static final String REFUSED = " throws IllegalArgumentException\n";
 
     /** "The synthesized ones of position 0 and the inherited ones of the others are to be DEFINED". */
     private static void toBeDefined() {
