@@ -75,9 +75,13 @@ public final class FaceTest {
         for (Field field : VisitGrammar.class.getDeclaredFields()) {
             Expect.isTrue(field + " is private", Modifier.isPrivate(field.getModifiers()));
         }
+        bearNoPublicName(VisitGrammar.class);
+    }
+
+    private static void bearNoPublicName(Class<?> type) {
         Set<String> names = new HashSet<>();
         FACE.forEach(line -> names.add(line.substring(line.indexOf(' ') + 1, line.indexOf('('))));
-        for (Method method : VisitGrammar.class.getDeclaredMethods()) {
+        for (Method method : type.getDeclaredMethods()) {
             Expect.isTrue(method + " bears no public method's name",
                     Modifier.isPublic(method.getModifiers()) || !names.contains(method.getName()));
         }
@@ -87,6 +91,7 @@ public final class FaceTest {
         Class<?>[] inside = VisitGrammar.class.getDeclaredClasses();
         Expect.isTrue("some twelve classes at most", inside.length <= 11);
         for (Class<?> type : inside) {
+            bearNoPublicName(type);
             int modifiers = type.getModifiers();
             Expect.isTrue(type + " is static and not public",
                     Modifier.isStatic(modifiers) && !Modifier.isPublic(modifiers) && !Modifier.isProtected(modifiers));

@@ -1,12 +1,19 @@
 import java.lang.management.ManagementFactory;
 
-/** All calls of one run live in one room: calls that do not throw make no objects. */
+/** All calls of one run live in one room: an object is small, and calls that do not throw make no objects. */
 public final class RoomTest {
     private static final int ROUNDS = 500;
 
     private static int sum = 0;
+    private static VisitGrammar latest;
 
     public static void main(String[] args) {
+        callsMakeNoObjects();
+        objectsAreSmall();
+        Expect.finish();
+    }
+
+    private static void callsMakeNoObjects() {
         VisitGrammar x = Samples.listWithTree();
         dearCalls(x);
         long before = made();
@@ -14,7 +21,16 @@ public final class RoomTest {
         long bytes = made() - before;
         // Some bytes are the measuring's own; one array a round would be 8000 at the least.
         Expect.isTrue("calls make no objects (" + bytes + " bytes, " + sum + ")", bytes < 4000);
-        Expect.finish();
+    }
+
+    /** An element or a field has 4 bytes, so that a thousand objects stay within some 4 million of them. */
+    private static void objectsAreSmall() {
+        long before = made();
+        for (int round = 0; round < ROUNDS; round++) {
+            latest = new VisitGrammar();
+        }
+        long bytes = (made() - before) / ROUNDS;
+        Expect.isTrue("an object is small (" + bytes + " bytes)", latest.status() == 0 && bytes < 16000);
     }
 
     private static void dearCalls(VisitGrammar x) {

@@ -1,31 +1,12 @@
 /** Promises 10 to 18 on ordinary trees; RunEdgesTest has their edges. */
 public final class RunTest {
     public static void main(String[] args) {
-        readmeExample();
         stepByStep();
         manyVisits();
         rootWithManyVisits();
         rootWithParent();
         largest();
         Expect.finish();
-    }
-
-    private static void readmeExample() {
-        VisitGrammar g = new VisitGrammar();
-        int top = g.symbol(1, 0);
-        int list = g.symbol(2, 1);
-        int whole = g.production(top, list, -1, -1);
-        int leaf = g.production(list, -1, -1, -1);
-        g.rule(whole, 4, 0, 10, 0);
-        g.rule(whole, 0, 2, 5, 0);
-        g.rule(leaf, 1, 7, 0, 0);
-        Expect.equal("P5 analyse", 6, g.analyse());
-        Expect.equal("P9 instruction", 101, g.instruction(whole, 1));
-        int below = g.node(leaf, 5, -1, -1, -1);
-        int root = g.node(whole, 0, below, -1, -1);
-        g.start(root);
-        Expect.equal("P14 run", 6, g.run(500));
-        Expect.equal("P18 value", 15, g.value(root, 0));
     }
 
     private static void stepByStep() {

@@ -21,6 +21,8 @@ public final class TermsEdgesTest {
         eachWayRound();
         throughAnotherPosition();
         throughAChild();
+        fourTimesRoundAllSymbols();
+        inManyRounds();
         handedOnFromEachPosition();
         handedOnToEachPosition();
         otherPositionsAreNotHandedOn();
@@ -181,6 +183,61 @@ public final class TermsEdgesTest {
                 rule 2 1 1 0 0
                 analyse = 13
                 """, Samples.sequenceRows(1, 101, 0, 1001, 4, 102, 1002));
+    }
+
+    /**
+     * "the least ones for which": a lead goes up the six symbols by productions 0 to 4 four times, each
+     * time as another one by a production that begins anew below, until the last one closes a circle.
+     */
+    private static void fourTimesRoundAllSymbols() {
+        StringBuilder rows = new StringBuilder("symbol 4 3\n".repeat(6));
+        for (int up = 0; up < 5; up++) {
+            rows.append("production # ".replace("#", "" + up)).append(up + 1).append(" -1 -1\n");
+            rows.append("rule # 4 2 0 0; rule # 5 2 1 0; rule # 2 2 6 0; rule # 3 2 7 0\n".replace("#", "" + up));
+        }
+        Script.due("four times round", rows.toString(), """
+                production 5 0 -1 -1; rule 5 4 2 1 0; rule 5 5 0 1 0; rule 5 2 2 6 0; rule 5 3 0 1 0
+                production 5 0 -1 -1; rule 6 4 0 1 0; rule 6 5 2 1 0; rule 6 2 0 1 0; rule 6 3 2 6 0
+                production 5 0 -1 -1; rule 7 4 0 1 0; rule 7 5 2 0 0; rule 7 2 0 1 0; rule 7 3 2 7 0
+                production 5 -1 -1 -1; rule 8 2 0 1 0; rule 8 3 0 1 0
+                production 0 0 0 -1; rule 9 4 2 11 0; rule 9 5 0 1 0; rule 9 8 2 7 0; rule 9 9 0 1 0
+                rule 9 2 0 1 0; rule 9 3 0 1 0
+                analyse throws UnsupportedOperationException
+                """, Samples.faultRows(3, 9, 4), """
+                rule 8 2 2 0 0
+                analyse throws UnsupportedOperationException
+                """, Samples.faultRows(2, 0, 0), """
+                rule 9 4 0 1 0
+                analyse
+                """);
+    }
+
+    /** The same on a grammar that was searched for: its leads are handed on some 35 times one behind another. */
+    private static void inManyRounds() {
+        Script.due("many rounds", """
+                symbol 4 2; symbol 4 13; symbol 4 11; symbol 4 7; symbol 4 15; symbol 4 15
+                production 0 -1 -1 -1; rule 0 0 0 1 0; rule 0 2 2 0 0; rule 0 3 0 1 0
+                production 3 5 1 5; rule 1 3 2 13 0; rule 1 4 2 2 0; rule 1 5 2 15 0; rule 1 6 0 1 0
+                rule 1 7 2 8 0; rule 1 8 0 1 0; rule 1 10 3 6 15; rule 1 11 2 5 0; rule 1 12 0 1 0; rule 1 13 2 6 0
+                rule 1 14 3 2 14; rule 1 15 2 2 0
+                production 1 1 5 1; rule 2 1 2 13 0; rule 2 4 0 1 0; rule 2 6 2 12 0; rule 2 7 0 1 0
+                rule 2 8 3 12 2; rule 2 9 2 5 0; rule 2 10 2 10 0; rule 2 11 2 1 0; rule 2 12 0 1 0
+                rule 2 14 2 3 0; rule 2 15 2 0 0
+                production 4 -1 -1 -1
+                production 1 5 5 0; rule 4 1 2 4 0; rule 4 4 3 8 15; rule 4 5 0 1 0; rule 4 6 2 14 0
+                rule 4 7 0 1 0; rule 4 8 0 1 0; rule 4 9 2 6 0; rule 4 10 3 5 7; rule 4 11 2 2 0; rule 4 13 2 5 0
+                production 2 3 2 3; rule 5 2 3 10 4; rule 5 4 3 2 13; rule 5 5 0 1 0; rule 5 6 0 1 0
+                rule 5 8 3 5 3; rule 5 9 2 9 0; rule 5 11 3 7 1; rule 5 12 2 6 0; rule 5 13 0 1 0; rule 5 14 2 0 0
+                production 3 3 3 3; rule 6 3 2 7 0; rule 6 4 0 1 0; rule 6 5 2 12 0; rule 6 6 2 1 0; rule 6 8 2 0 0
+                rule 6 9 0 1 0; rule 6 10 3 6 1; rule 6 12 2 8 0; rule 6 13 2 4 0; rule 6 14 0 1 0
+                production 0 4 4 0; rule 7 0 2 4 0; rule 7 2 3 9 13; rule 7 3 2 7 0; rule 7 4 0 1 0; rule 7 5 0 1 0
+                rule 7 6 3 11 10; rule 7 7 0 1 0; rule 7 8 2 5 0; rule 7 9 3 14 12; rule 7 10 2 12 0
+                rule 7 11 3 1 12; rule 7 13 2 10 0
+                production 4 -1 -1 -1
+                production 5 1 1 -1; rule 9 4 3 10 0; rule 9 6 2 9 0; rule 9 7 0 1 0; rule 9 8 0 1 0
+                rule 9 10 2 0 0; rule 9 11 2 7 0
+                analyse throws UnsupportedOperationException
+                """, Samples.faultRows(2, 0, 0));
     }
 
     /** "if in a production an occurrence leads to another one of the same position, so do the attributes". */
