@@ -25,6 +25,7 @@ public final class AnalysisEdgesTest {
         firstSuchProduction();
         leastOccurrenceWithoutARule();
         leastOccurrenceThatLeadsToItself();
+        eachOccurrenceThatLeadsToItself();
         leastOccurrenceInACircle();
         noFaultIfThereIsNoProduction();
         noFaultIfItDidNotThrow();
@@ -222,6 +223,21 @@ public final class AnalysisEdgesTest {
                 rule 0 12 1 0 0
                 analyse = 8
                 """);
+    }
+
+    /** P6 "the least occurrence .. that leads to itself": from 0 to 15, where no other one does. */
+    private static void eachOccurrenceThatLeadsToItself() {
+        StringBuilder rows = new StringBuilder("symbol 4 0; symbol 4 15; symbol 4 15; symbol 4 15\n");
+        rows.append("production 0 1 2 3\n");
+        for (int occurrence = 0; occurrence < 16; occurrence++) {
+            rows.append("rule 0 ").append(occurrence).append(" 1 0 0\n");
+        }
+        for (int occurrence = 0; occurrence < 16; occurrence++) {
+            rows.append("rule 0 # 2 # 0\n".replace("#", "" + occurrence));
+            rows.append("analyse throws UnsupportedOperationException\n").append(Samples.faultRows(2, 0, occurrence));
+            rows.append("rule 0 # 1 0 0\n".replace("#", "" + occurrence));
+        }
+        Script.due("P6 each that leads to itself", rows.toString(), "analyse = 20", Samples.faultRows(0, -1, -1));
     }
 
     /** P6 "or that lies in a circle (2)": not the left's, which only waits for it. */

@@ -285,12 +285,20 @@ public final class TermsEdgesTest {
 
     /** ".. leads to another one": an occurrence that leads to itself alone gives its symbol nothing. */
     private static void anotherOneIsNotItself() {
-        Script.due("itself is no other", """
-                symbol 1 0
-                production 0 0 -1 -1; rule 0 0 2 4 0
-                production 0 -1 -1 -1; rule 1 0 2 0 0
-                analyse throws UnsupportedOperationException
-                """, Samples.faultRows(2, 1, 0));
+        for (int attribute = 0; attribute < 4; attribute++) {
+            Script.due("the left's " + attribute + " is no other", """
+                    symbol 4 0
+                    production 0 0 -1 -1; rule 0 0 2 4 0; rule 0 1 2 5 0; rule 0 2 2 6 0; rule 0 3 2 7 0
+                    production 0 -1 -1 -1; rule 1 0 1 0 0; rule 1 1 1 0 0; rule 1 2 1 0 0; rule 1 3 1 0 0
+                    """, "rule 1 # 2 # 0".replace("#", "" + attribute),
+                    "analyse throws UnsupportedOperationException", Samples.faultRows(2, 1, attribute));
+            Script.due("the right's " + attribute + " is no other", """
+                    symbol 4 15
+                    production 0 -1 -1 -1
+                    production 0 0 -1 -1; rule 1 4 1 0 0; rule 1 5 1 0 0; rule 1 6 1 0 0; rule 1 7 1 0 0
+                    """, "rule 1 # 2 # 0".replace("#", "" + (4 + attribute)),
+                    "analyse throws UnsupportedOperationException", Samples.faultRows(2, 1, 4 + attribute));
+        }
     }
 
     /** "It is CIRCULAR if an occurrence leads to itself": by each form and each of its two places. */
